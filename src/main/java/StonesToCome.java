@@ -47,9 +47,6 @@ public final class StonesToCome {
         if (!isKind(kind) || !isOne(who) || !isSquare(where) || !isRank(what) || !isYear(when)) {
             return BAD;
         }
-        if (now.many >= MOST_STONES) {
-            return FULL;
-        }
         return now.putUp(kind, who, where, what, when);
     }
 
@@ -335,7 +332,7 @@ public final class StonesToCome {
         // No STONE touches another one's cost: without the dearest the rest is cheapest.
         int dearest = 0;
         int cost = now.cost;
-        for (int i = 0; i < now.many; i++) {
+        for (int i = 0; i < now.many && i < MOST_STONES; i++) {
             cost += sums[i];
             if (sums[i] > sums[dearest]) {
                 dearest = i;
@@ -430,7 +427,7 @@ public final class StonesToCome {
         if (tape.fault >= 0) {
             return -100 - tape.fault;
         }
-        return now.laws.many >= MOST_TEXTS ? FULL : now.laws.enact(tape.parsed());
+        return now.laws.enact(tape.parsed());
     }
 
     public int textTold(int text, int what) {
@@ -740,7 +737,7 @@ public final class StonesToCome {
         for (int k = 0; k < n; k++) {
             mind.stir();
             mind.fulfil();
-            for (int i = 0; i < mind.many; i++) {
+            for (int i = 0; i < mind.many && i < MOST_STONES; i++) {
                 if (!mind.stones[i].isFulfilled()) {
                     sums[i] += mind.keeps(mind.stones[i]);
                 }
@@ -968,7 +965,7 @@ public final class StonesToCome {
             z = other.z;
         }
 
-        /** The number of the new STONE; the caller has seen to it that there is room. */
+        /** The number of the new STONE, or FULL. */
         int putUp(int kind, int who, int where, int what, int when) {
             if (many < 0 || many >= MOST_STONES) {
                 return FULL;
@@ -1179,6 +1176,7 @@ public final class StonesToCome {
             many = other.many;
         }
 
+        /** The number of the new TEXT, or FULL. */
         int enact(Text text) {
             if (many < 0 || many >= MOST_TEXTS || text.key < 0 || text.key >= KEYS) {
                 return FULL;
