@@ -1,24 +1,5 @@
 /** For each promise of the document: ordinary inputs, the edges that it names, and wrong inputs; answers worked out by hand. */
-public final class PromiseTests {
-    private static final int BAD = -1000000001, NO = -1000000002, FULL = -1000000003, NONE = -1000000005,
-            NOTHING = -1000000011, KIND = -1000000012, INDEX = -1000000013, SIZE = -1000000014;
-    private static final int MIN = Integer.MIN_VALUE, MAX = Integer.MAX_VALUE;
-    private static int wrong = 0;
-    private static int asked = 0;
-
-    private static void due(int promise, String call, int got, int want) {
-        asked++;
-        if (got != want) {
-            wrong++;
-            System.out.println("promise " + promise + ": " + call + " answered " + got + ", due is " + want);
-        }
-    }
-
-    /** All of them are refused so. */
-    private static void all(int promise, String calls, int want, int... got) {
-        for (int i = 0; i < got.length; i++) due(promise, calls + " #" + i, got[i], want);
-    }
-
+public final class PromiseTests extends Checks {
     public static void main(String[] args) {
         newObject();
         stonesAndPeople();
@@ -27,64 +8,7 @@ public final class PromiseTests {
         texts();
         sheetsAndSlots();
         rowsAndImages();
-        System.out.println(asked + " answers asked for, " + wrong + " wrong");
-        if (wrong != 0) System.exit(1);
-    }
-
-    // ---- what the tests need
-
-    /** Nobody moves or rises by lot. */
-    private static StonesToCome still() {
-        StonesToCome x = new StonesToCome();
-        x.rule(0, 0);
-        x.rule(1, 0);
-        return x;
-    }
-
-    /** THE TAPE becomes these bytes, 96 at most. */
-    private static void type(StonesToCome x, String s) {
-        x.trim(0);
-        for (int i = 0; i < s.length(); i += 12) {
-            int[] three = new int[3];
-            for (int k = 0; k < 12; k++) three[k / 4] = three[k / 4] << 8 | (i + k < s.length() ? s.charAt(i + k) : 0);
-            x.feed(three[0], three[1], three[2]);
-        }
-        x.trim(s.length());
-    }
-
-    private static int text(StonesToCome x, String s) {
-        type(x, s);
-        return x.text();
-    }
-
-    private static int fault(String s) {
-        return text(new StonesToCome(), s);
-    }
-
-    /** What a fee TEXT gives with COST 0 and MISSED 0. */
-    private static int gives(String e) {
-        StonesToCome x = new StonesToCome();
-        int told = text(x, "fee " + e);
-        return told == 0 ? x.fee() : told;
-    }
-
-    private static final class Lot {
-        int z;
-
-        Lot(int z) {
-            this.z = z;
-        }
-
-        int rest(int n) {
-            z = z * 1103515245 + 12345;
-            return (z >>> 8) % n;
-        }
-    }
-
-    /** In how many calls of years(100) the last year is reached: 99 and one of 99. */
-    private static void goToLastYear(StonesToCome x) {
-        for (int i = 0; i < 99; i++) x.years(100);
-        x.years(99);
+        end();
     }
 
     // ---- promise 1
@@ -271,7 +195,7 @@ public final class PromiseTests {
         due(12, "deal(1): no room", x.deal(1), 0);
         due(12, "count(7): no draws", x.count(7), lot.z);
         StonesToCome late = still();
-        goToLastYear(late);
+        goToYear(late, 9999);
         due(12, "count(1)", late.count(1), 9999);
         due(12, "deal(10) in the last year", late.deal(10), 10);
         for (int i = 0; i < 10; i++) due(12, "told(" + i + ", 4)", late.told(i, 4), 9999);
