@@ -795,7 +795,7 @@ public final class StonesToCome {
         }
 
         void move(int one, int square) {
-            if (isOne(one) && isSquare(square)) {
+            if (isOne(one) && isSquare(square) && isSquare(squares[one])) {
                 crowds[squares[one]] &= ~(1 << one);
                 crowds[square] |= 1 << one;
                 squares[one] = square;
@@ -1147,7 +1147,7 @@ public final class StonesToCome {
         /** The last of the PEOPLE goes to the next SQUARE; from the last one back to 0, and the one ahead goes on, too. */
         private void goOn() {
             boolean carries = true;
-            for (int one = PEOPLE - 1; one >= 0 && carries; one--) {
+            for (int one = PEOPLE - 1; one >= 0 && carries && isSquare(squares[one]); one--) {
                 int next = (squares[one] + 1) % SQUARES;
                 crowds[squares[one]] &= ~(1 << one);
                 crowds[next] |= 1 << one;

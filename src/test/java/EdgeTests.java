@@ -31,6 +31,7 @@ public final class EdgeTests extends Checks {
         rest();
         tellAndCheck();
         keepAndBack();
+        goneForGood();
         count();
         end();
     }
@@ -702,6 +703,29 @@ public final class EdgeTests extends Checks {
         due(45, "SLOTS stay", y.rest(0, 100), 9);
         due(45, "numbers that wait stay", y.count(5), 2);
         due(45, "THE TAPE stays", y.count(6), 24);
+    }
+
+    /** What THE IMAGE does not have is gone, and leaves nothing to those that come in its place. */
+    private static void goneForGood() {
+        for (int kept : new int[] {0, 1, 9}) {
+            StonesToCome x = still();
+            for (int i = 0; i < kept; i++) x.stone(STONE, 0, 1, 0, 9);
+            x.keep();
+            for (int i = kept; i < 10; i++) x.stone(BENCH, 0, 0, 0, 9);
+            due(14, "all others come true", x.years(1), 10 - kept);
+            due(45, "how many STONES", x.back(), kept);
+            due(15, "none is FULFILLED", x.city(2), 0);
+            due(15, "OPEN are those of THE IMAGE", x.city(3), (1 << kept) - 1);
+            due(15, "none HOLDS", x.city(4), 0);
+            due(18, "none is FULFILLED in thoughts", x.behind(0, 0), 0);
+            due(3, "it is gone", x.told(kept, 5), BAD);
+            due(2, "its number is free", x.stone(COLUMN, 1, 2, 9, 8), kept);
+            int[] told = {COLUMN, 1, 2, 9, 8, NONE};
+            for (int what = 0; what < 6; what++) due(3, "told(" + kept + ", " + what + ")", x.told(kept, what), told[what]);
+            x.back();
+            due(12, "their numbers are free", x.deal(10), 10 - kept);
+            for (int i = kept; i < 10; i++) due(3, "drawn: DONE none at first", x.told(i, 5), NONE);
+        }
     }
 
     private static void count() {

@@ -19,6 +19,7 @@ public final class TermsTests extends Checks {
         clash();
         thoughtsWithoutTheBound();
         tape();
+        fullTapes();
         names();
         everyByte();
         blanksAndWords();
@@ -503,6 +504,21 @@ public final class TermsTests extends Checks {
         for (int i = 0; i < 14; i++) due(30, "14 at most, numbered from 0", text(y, "fee 1"), i);
         due(30, "14 at most", text(y, "fee 1"), FULL);
         due(46, "14 at most", y.count(4), 14);
+    }
+
+    /** 14 TEXTS of 96 bytes, each behind one with a FAULT at its last byte. */
+    private static void fullTapes() {
+        StonesToCome x = new StonesToCome();
+        for (int i = 0; i < 14; i++) {
+            String most = "fee 1" + many("+1", 44) + "+1";
+            due(30, "a FAULT at the last byte", text(x, most + ")"), -195);
+            due(26, "as it was", x.fee(), i == 0 ? 0 : 55 + (i - 1) % 10);
+            due(30, "its number", text(x, most + i % 10), i);
+            due(31, "NUMBERS and NAMES", x.textTold(i, 1), 46);
+            due(26, "what it gives", x.fee(), 55 + i % 10);
+        }
+        due(30, "14 at most", text(x, "fee 1"), FULL);
+        due(26, "as it was", x.fee(), 58);
     }
 
     private static void names() {
