@@ -208,11 +208,7 @@ public final class StonesToCome {
         if (n < 1 || n > 100) {
             return BAD;
         }
-        int came = 0;
-        for (int i = 0; i < n && now.year < LAST_YEAR; i++) {
-            came += now.passYear(true);
-        }
-        return came;
+        return now.passYears(Math.min(n, LAST_YEAR - now.year));
     }
 
     public int city(int what) {
@@ -257,15 +253,17 @@ public final class StonesToCome {
             return BAD;
         }
         mind.become(now);
-        mind.passYears(n, what == 1 || what == 2);
         switch (what) {
             case 0:
-                return Integer.bitCount(mind.fulfilledSet());
+                return mind.fulfilledBehind(n);
             case 1:
+                mind.passYears(n);
                 return mind.missed;
             case 2:
+                mind.passYears(n);
                 return mind.cost;
             default:
+                mind.passUnpaid(n);
                 return mind.people.rankOf(what - 3);
         }
     }
@@ -638,7 +636,7 @@ public final class StonesToCome {
         int due = 2 * Math.min(n, LAST_YEAR - image.year);
         for (int i = 0; i < due; i++) {
             if (i % 2 == 0) {
-                mind.passYear(true);
+                mind.passYears(1);
             }
             int right = i % 2 == 0 ? mind.cost : mind.people.ranksTogether();
             if (i >= given || i >= MOST_WAITING || waiting[i] != right) {
@@ -1007,25 +1005,29 @@ public final class StonesToCome {
             return one.keepsBy(Math.max(0, Math.min(99, given)));
         }
 
-        /** A YEAR; where COST and MISSED are not asked for, it need not pay. How many were FULFILLED. */
-        int passYear(boolean pays) {
-            stir();
-            int came = fulfil();
-            if (pays) {
+        /** How many were FULFILLED in them. */
+        int passYears(int n) {
+            int came = 0;
+            for (int i = 0; i < n; i++) {
+                stir();
+                came += fulfil();
                 pay();
+                year++;
             }
-            year++;
             return came;
         }
 
-        void passYears(int n, boolean pays) {
+        /** For thoughts that ask for no COST or MISSED: TEXTS are dear to work out. */
+        void passUnpaid(int n) {
             for (int i = 0; i < n; i++) {
-                passYear(pays);
+                stir();
+                fulfil();
+                year++;
             }
         }
 
         int fulfilledBehind(int n) {
-            passYears(n, false);
+            passUnpaid(n);
             return Integer.bitCount(fulfilledSet());
         }
 
@@ -1334,12 +1336,12 @@ public final class StonesToCome {
             return place >= 0 && place < length && place < MOST_BYTES ? bytes[place] : END;
         }
 
-        private boolean isLetter(int place) {
-            return byteAt(place) >= 'a' && byteAt(place) <= 'z';
+        private static boolean isLetter(int sign) {
+            return sign >= 'a' && sign <= 'z';
         }
 
-        private boolean isDigit(int place) {
-            return byteAt(place) >= '0' && byteAt(place) <= '9';
+        private static boolean isDigit(int sign) {
+            return sign >= '0' && sign <= '9';
         }
 
         private void next() {
@@ -1351,14 +1353,14 @@ public final class StonesToCome {
             }
             end = start;
             token = byteAt(start);
-            if (isLetter(start)) {
+            if (isLetter(token)) {
                 token = WORD;
-                while (end < length && isLetter(end)) {
+                while (end < length && isLetter(byteAt(end))) {
                     end++;
                 }
-            } else if (isDigit(start)) {
+            } else if (isDigit(token)) {
                 token = NUMBER;
-                while (end < length && isDigit(end)) {
+                while (end < length && isDigit(byteAt(end))) {
                     end++;
                 }
             } else {
